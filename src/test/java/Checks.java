@@ -1,0 +1,68 @@
+/** Counts the calls whose answer is not the one that is due, and tells each with its line. */
+final class Checks {
+    interface Call {
+        Object answer();
+    }
+
+    private static int made = 0;
+    private static int wrong = 0;
+
+    private Checks() {
+    }
+
+    /** The answer of a call, or "throws.X" if it throws an X. */
+    static Object answerOf(Call call) {
+        try {
+            return call.answer();
+        } catch (RuntimeException e) {
+            return "throws." + e.getClass().getSimpleName();
+        }
+    }
+
+    static void due(Object want, Call call) {
+        compare(want, answerOf(call));
+    }
+
+    static void index(Moonmirror x, Call call) {
+        refused(x, "throws.IndexOutOfBoundsException", call);
+    }
+
+    static void argument(Moonmirror x, Call call) {
+        refused(x, "throws.IllegalArgumentException", call);
+    }
+
+    static void state(Moonmirror x, Call call) {
+        refused(x, "throws.IllegalStateException", call);
+    }
+
+    /** A call that throws changes nothing, so the checksum is looked at, too. */
+    private static void refused(Moonmirror x, String want, Call call) {
+        long before = x.digest();
+        compare(want, answerOf(call));
+        compare(before, x.digest());
+    }
+
+    private static void compare(Object want, Object got) {
+        made++;
+        if (!want.equals(got)) {
+            wrong++;
+            System.out.println(place() + ": answered " + got + ", due is " + want);
+        }
+    }
+
+    private static String place() {
+        for (StackTraceElement frame : new Throwable().getStackTrace()) {
+            if (!frame.getClassName().equals("Checks")) {
+                return frame.getFileName() + ":" + frame.getLineNumber();
+            }
+        }
+        return "?";
+    }
+
+    static void end() {
+        System.out.println(made + " checks, " + wrong + " wrong");
+        if (wrong != 0) {
+            System.exit(1);
+        }
+    }
+}
