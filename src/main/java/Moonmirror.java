@@ -887,7 +887,8 @@ public final class Moonmirror {
         if (period <= 0) {
             return 0;
         }
-        int y = Math.floorMod(x, period) * 32 / period;
+        int rest = x % period;
+        int y = (rest < 0 ? rest + period : rest) * 32 / period;
         if (y < 8) {
             return y;
         }
@@ -1145,18 +1146,11 @@ public final class Moonmirror {
             terms = new ArrayList<Term>();
         }
 
-        int waveOfTerm(int term, int time) {
-            if (term < 0 || term >= terms.size()) {
-                return 0;
-            }
-            Term one = terms.get(term);
-            return waveOf(one.period, time + one.phase);
-        }
-
         int rangeAt(int time) {
             int sum = mean;
-            for (int term = 0; term < terms.size(); term++) {
-                sum += terms.get(term).amplitude * waveOfTerm(term, time);
+            for (int number = 0; number < terms.size(); number++) {
+                Term one = terms.get(number);
+                sum += one.amplitude * waveOf(one.period, time + one.phase);
             }
             return sum;
         }
@@ -1701,10 +1695,15 @@ public final class Moonmirror {
             if (unknown < FIRST_TERM_UNKNOWN) {
                 return one.mirror == unknown - FIRST_MIRROR_UNKNOWN ? 2 : 0;
             }
-            if (unknown < DRIFT_UNKNOWN) {
-                return 2 * by.waveOfTerm(unknown - FIRST_TERM_UNKNOWN, one.time);
+            if (unknown == DRIFT_UNKNOWN) {
+                return one.nightOf() / 10;
             }
-            return one.nightOf() / 10;
+            int place = unknown - FIRST_TERM_UNKNOWN;
+            if (place >= by.terms.size()) {
+                return 0;
+            }
+            Term term = by.terms.get(place);
+            return 2 * waveOf(term.period, one.time + term.phase);
         }
 
         private void tellFitted() {

@@ -10,13 +10,20 @@ final class Checks {
     private Checks() {
     }
 
-    /** The answer of a call, or "throws.X" if it throws an X. */
-    static Object answerOf(Call call) {
+    /** The answer of a call, or what it throws. */
+    private static Object answerOf(Call call) {
         try {
             return call.answer();
         } catch (RuntimeException e) {
-            return "throws." + e.getClass().getSimpleName();
+            return thrown(e);
         }
+    }
+
+    /** "throws.X", if the program throws an X by a throw of its own; the machine and the library may never throw. */
+    static String thrown(Throwable e) {
+        StackTraceElement[] frames = e.getStackTrace();
+        boolean isOwn = frames.length > 0 && frames[0].getClassName().startsWith("Moonmirror");
+        return (isOwn ? "throws." : "throws by itself ") + e.getClass().getSimpleName();
     }
 
     static void due(Object want, Call call) {

@@ -313,6 +313,24 @@ public final class FitsTest {
         Checks.due(2, () -> x.term(3, 4, 1, 1));
     }
 
+    /** 63 in 64ths is nothing more, 64 is 1. */
+    private static void promise40Rounded() {
+        for (int sign = -1; sign <= 1; sign += 2) {
+            Moonmirror x = new Moonmirror();
+            x.ephemeris(0);
+            x.term(0, 4, 0, 0);
+            x.station(0, 0, 0, 0, 1);
+            x.mirror(0, 1, 0);
+            x.plant(0, 0, 1, 0, sign * 252, 1);
+            Checks.due(sign * 63, () -> x.fit(0, TERM_0, NONE, 0));
+            Checks.due(1, () -> x.improve(0, TERM_0));
+            Checks.due(0, () -> x.range(1, 1));
+            x.amend(0, sign * 256);
+            Checks.due(2, () -> x.improve(0, TERM_0));
+            Checks.due(sign * 8, () -> x.range(2, 1));
+        }
+    }
+
     private static void promise40Held() {
         for (int sign = -1; sign <= 1; sign += 2) {
             Moonmirror x = new Moonmirror();
@@ -344,6 +362,7 @@ public final class FitsTest {
         promise38Worst();
         promise39BestUnknown();
         promise40Improve();
+        promise40Rounded();
         promise40Held();
         Checks.end();
     }

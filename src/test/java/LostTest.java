@@ -44,6 +44,10 @@ public final class LostTest {
         Checks.due(2, () -> x.many(10));
         Checks.due(false, () -> x.search(1, 0, 5));
         Checks.due(50, () -> x.belief(0));
+        // The first number of 81 is 63; that of 12 is 64, which is 0.
+        Checks.due(false, () -> x.search(0, 0, 81));
+        Checks.due(0, () -> x.belief(0));
+        Checks.due(true, () -> x.search(2, 15, 12));
         // The first number of 50 is 65, which is 1 modulo 64.
         Checks.due(true, () -> x.search(2, 15, 50));
         Checks.due(3, () -> x.many(10));

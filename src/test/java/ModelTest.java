@@ -140,7 +140,8 @@ public final class ModelTest {
         try {
             return m.invoke(on, with);
         } catch (InvocationTargetException e) {
-            return "throws." + e.getCause().getClass().getName();
+            Throwable thrown = e.getCause();
+            return on instanceof PlainMoon ? "throws." + thrown.getClass().getSimpleName() : Checks.thrown(thrown);
         }
     }
 

@@ -71,6 +71,35 @@ public final class PointsTest {
         Checks.due(-1, () -> x.publish(0));
         Checks.due(0, () -> x.many(6));
         Checks.due(-1, () -> x.ofSession(0, 8));
+        // 16 counts and 17, with a COUNT of 4: 1 in -8, 2 in -7, 1 in -6.
+        Checks.due(16, () -> x.shoot(0, 1, 0, 0, 47, 22));
+        Checks.due(17, () -> x.shoot(0, 1, 0, 0, 48, 37));
+        Checks.due(4, () -> x.ofSession(1, 6));
+        Checks.due(4, () -> x.ofSession(2, 6));
+        Checks.due(1, () -> x.ofSession(1, 7));
+        Checks.due(0, () -> x.ofSession(2, 7));
+        Checks.due(-1, () -> x.publish(2));
+        Checks.due(0, () -> x.publish(1));
+        Checks.due(-112, () -> x.ofPoint(0, 4));
+    }
+
+    /** All 40 points of one station. */
+    private static void fortyOfOne() {
+        Moonmirror x = plain();
+        for (int k = 0; k < 40; k++) {
+            x.plant(0, 0, 4319 - k, 0, k < 25 ? 7 + k % 2 : 100, 1);
+        }
+        // 13 of 7, 12 of 8, 15 of 100; the lower of both middle ones is the 20th.
+        Checks.due(8, () -> x.median(0));
+        Checks.due(24, () -> x.broken(0));
+        Checks.due(-1, () -> x.turned(0, true));
+        Checks.due(1, () -> x.arcs(0));
+        Checks.due((13 * 7 + 12 * 8 + 15 * 100) / 40, () -> x.arc(0, 0));
+        Checks.due(39, () -> x.suspect(90, 14));
+        x.amend(0, -7);
+        x.amend(1, -8);
+        Checks.due(1, () -> x.turned(0, false));
+        Checks.due(0, () -> x.turned(0, true));
     }
 
     private static void promise23Plant() {
@@ -217,6 +246,8 @@ public final class PointsTest {
         Checks.due(-1, () -> x.suspect(0, Integer.MAX_VALUE));
         x.flag(2, 3);
         Checks.due(5, () -> x.suspect(20, 0));
+        x.amend(0, 300);
+        Checks.due(0, () -> x.suspect(20, 0));
     }
 
     private static void promise30Turned() {
@@ -332,6 +363,7 @@ public final class PointsTest {
     public static void main(String[] args) {
         promise22Publish();
         promise22Returns();
+        fortyOfOne();
         promise23Plant();
         promise24Amend();
         promise25Flag();

@@ -149,7 +149,9 @@ public final class SkyTest {
         Checks.due(53, () -> x.chance(0, 0, 9));
         Checks.due(57, () -> x.chance(0, 0, 359));
         Checks.due(9, () -> x.weather(1, 359, 99, 0));
-        for (int k = 0; k < 6; k++) {
+        Checks.due(0, () -> x.weather(1, 1, 0, 0));
+        Checks.due(5, () -> x.ofStation(1, 6));
+        for (int k = 0; k < 5; k++) {
             x.weather(1, k, k, k);
         }
         Checks.due(2, () -> x.weather(1, 2, 9, 2));
@@ -524,11 +526,18 @@ public final class SkyTest {
         Checks.due(2, () -> x.ofSession(2, 60));
         Checks.due(19, () -> x.ofSession(2, 5));
         Checks.due(5, () -> x.ofSession(2, 6));
+        // With an aim of 0 again, and rain from the night 5 on, the chance is 40: the row of 5 is 61, 85, and none.
+        x.weather(0, 5, 50, 20);
+        Checks.due(0, () -> x.shoot(0, 0, 5 * 12 + 11, 0, 1, 5));
+        // The row of 3: 106 modulo 64 is 42, below 60, and 89 modulo 5 is 4: the bin 2; with 40 it is 89 modulo 3.
+        Checks.due(1, () -> x.shoot(0, 0, 5 * 12 - 1, 0, 1, 3));
+        Checks.due(0, () -> x.shoot(0, 0, 5 * 12, 0, 1, 3));
+        Checks.due(2, () -> x.ofSession(4, 5) + x.ofSession(4, 6));
         // By another ephemeris the aim is twice what it is wrong by.
         x.ephemeris(2);
         x.shoot(0, 0, 0, 1, 4, 0);
-        Checks.due(2, () -> x.ofSession(3, 40 - 2 - 4));
-        Checks.due(-5, () -> x.ofSession(3, 5));
+        Checks.due(2, () -> x.ofSession(6, 40 - 2 - 4));
+        Checks.due(-5, () -> x.ofSession(6, 5));
     }
 
     private static void promise21OfSession() {
