@@ -10,7 +10,9 @@ import java.nio.file.Path;
 import java.util.ArrayList;
 import java.util.Arrays;
 import java.util.List;
+import java.util.Map;
 import java.util.Set;
+import java.util.TreeMap;
 import java.util.TreeSet;
 import java.util.regex.Matcher;
 import java.util.regex.Pattern;
@@ -135,6 +137,81 @@ public final class LanguageTest {
         }
     }
 
+    /** Which of the program's own methods (and constructors) each of them calls, by their names. */
+    private static Map<String, Set<String>> callsOfMethods() throws IOException {
+        Map<String, StringBuilder> bodies = new TreeMap<>();
+        Pattern begin = Pattern.compile("^( {4}| {8})(?:(?:public|private|static) )*(?:[\\w<>\\[\\]]+ )?(\\w+)\\(.*[^;]$");
+        String name = null;
+        String end = "";
+        for (String line : Files.readAllLines(Path.of("src/main/java/Moonmirror.java"), StandardCharsets.ISO_8859_1)) {
+            Matcher found = begin.matcher(line);
+            if (name == null && found.find()) {
+                name = found.group(2);
+                end = found.group(1) + "}";
+                bodies.putIfAbsent(name, new StringBuilder());
+            } else if (name != null) {
+                bodies.get(name).append(line).append('\n');
+                name = line.equals(end) ? null : name;
+            }
+        }
+        Map<String, Set<String>> calls = new TreeMap<>();
+        Pattern call = Pattern.compile("\\b(\\w+)\\(");
+        for (String method : bodies.keySet()) {
+            Matcher found = call.matcher(bodies.get(method));
+            Set<String> called = new TreeSet<>();
+            while (found.find()) {
+                called.add(found.group(1));
+            }
+            called.retainAll(bodies.keySet());
+            calls.put(method, called);
+        }
+        return calls;
+    }
+
+    private static int depth(String method, Map<String, Set<String>> calls, List<String> open) {
+        Checks.due(false, () -> open.contains(method));
+        if (open.contains(method)) {
+            return 0;
+        }
+        open.add(method);
+        int deepest = 0;
+        for (String called : calls.get(method)) {
+            deepest = Math.max(deepest, depth(called, calls, open));
+        }
+        open.remove(method);
+        return deepest + 1;
+    }
+
+    /** What is called of the library is what rule 4 lists. */
+    private static void checkLibrary() throws IOException {
+        String source = Files.readString(Path.of("src/main/java/Moonmirror.java"), StandardCharsets.ISO_8859_1);
+        Set<String> own = callsOfMethods().keySet();
+        Set<String> listed = Set.of("add", "get", "remove", "size", "isEmpty", "clear", "append", "toString", "abs", "max", "min",
+                "bitCount");
+        Matcher called = Pattern.compile("\\.(\\w+)\\(").matcher(source);
+        while (called.find()) {
+            String name = called.group(1);
+            Checks.due(name, () -> own.contains(name) || listed.contains(name) ? name : "not listed");
+        }
+        Matcher made = Pattern.compile("\\bnew (\\w+)[<(\\[]").matcher(source);
+        Set<String> classes = new TreeSet<>(names(classes().toArray(new Class<?>[0])));
+        classes.addAll(List.of("ArrayList", "StringBuilder", "int", "long", "boolean", "IllegalArgumentException",
+                "IllegalStateException", "IndexOutOfBoundsException"));
+        while (made.find()) {
+            String name = made.group(1);
+            Checks.due(name, () -> classes.contains(name) ? name : "not listed");
+        }
+    }
+
+    /** No recursion, and calls at most eight deep. */
+    private static void checkDepth() throws IOException {
+        Map<String, Set<String>> calls = callsOfMethods();
+        Checks.due(true, () -> calls.size() > 140 && calls.get("digest").contains("withPoints"));
+        for (String method : calls.keySet()) {
+            Checks.due(true, () -> depth(method, calls, new ArrayList<>()) <= 8);
+        }
+    }
+
     private static Moonmirror fullest() {
         Moonmirror x = new Moonmirror();
         for (int e = 0; e < 4; e++) {
@@ -187,6 +264,8 @@ public final class LanguageTest {
         checkMembers();
         checkWords();
         checkLengths();
+        checkLibrary();
+        checkDepth();
         checkRoom();
         Checks.end();
     }
